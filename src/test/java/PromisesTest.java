@@ -26,6 +26,7 @@ public final class PromisesTest {
         verifyVersionAndLife();
         verifySnapshotAndTold();
         verifyOrder();
+        verifyAndFindWhereAllIsFull();
         update();
         revoke();
         find();
@@ -87,6 +88,8 @@ public final class PromisesTest {
             x.digest(i);
             return false;
         } catch (ArrayIndexOutOfBoundsException e) {
+            // The machine's own text: it must never be the machine that throws.
+            CHECK.no("digest(" + i + ") is thrown by the machine", e.getMessage().contains("out of bounds"));
             return true;
         }
     }
@@ -247,6 +250,8 @@ public final class PromisesTest {
 
     private static void tellsInOrder(SignQuorum x) {
         int row = x.row(2, 1, 0);
+        CHECK.no("a row that tells nothing yet tells of 2", x.tells(row, 2, 1));
+        CHECK.no("a row that tells nothing yet tells of 10", x.tells(row, 10, 1));
         CHECK.yes("tells of 7", x.tells(row, 7, 1));
         CHECK.yes("tells of 3", x.tells(row, 3, 2));
         CHECK.yes("tells of 9", x.tells(row, 9, 3));
@@ -468,6 +473,16 @@ public final class PromisesTest {
         CHECK.same("rule 3: a key doesn't live at its until", x.verify(time, 50), -3);
         x.revoke(1);
         CHECK.same("rule 3: a revoked key", x.verify(time, 0), -3);
+        firstKeyDies();
+    }
+
+    private static void firstKeyDies() {
+        SignQuorum x = new SignQuorum();
+        x.key(1, 5);
+        x.holds(0, 0, true);
+        signed(x, 0, 1, FAR);
+        CHECK.same("rule 4: the first key at its until", x.verify(0, 5), -4);
+        CHECK.same("the first key below its until", x.verify(0, 4), 1);
     }
 
     private static void verifyVersionAndLife() {
@@ -552,6 +567,39 @@ public final class PromisesTest {
         CHECK.same("order: rule 5 before 6, root", x.verify(signed(x, 0, 9, 5), 600), -5);
     }
 
+    /** As many keys, roles told, delegations and paths as there may be: none is passed over, nothing throws. */
+    private static void verifyAndFindWhereAllIsFull() {
+        SignQuorum x = house();
+        for (int k = 1; k < 20; k++) {
+            x.key(k, FAR);
+        }
+        x.holds(1, 19, true);
+        take(x, x.row(0, 2, FAR));
+        int time = x.row(1, 1, FAR);
+        x.sign(time, 19);
+        CHECK.same("the last key counts", x.verify(time, 0), 1);
+        takeSnapshot(x);
+        int[] roles = {3, 4, 5, 6, 7, 8, 9};
+        int[] ones = {1, 1, 1, 1, 1, 1, 1};
+        int next = x.row(1, 1, FAR);
+        x.tells(next, 2, 3);
+        take(x, next);
+        CHECK.same("all seven roles told again", verifyTold(x, roles, ones), 1);
+        CHECK.same("rule 8: the last of seven isn't told", verifyTold(x, new int[] {3, 4, 5, 6, 7, 8}, ones), -8);
+        int targets = x.row(3, 1, FAR);
+        for (int i = 0; i < 6; i++) {
+            x.lists(targets, 1 + i);
+            x.delegate(targets, i < 5 ? 8 : 7, 4 + i, false);
+        }
+        take(x, targets);
+        int last = x.row(9, 1, FAR);
+        x.lists(last, 7);
+        take(x, last);
+        CHECK.same("find the last of six paths", x.find(6), 3);
+        CHECK.same("find by the last of six delegations", x.find(7), 9);
+        CHECK.same("find in none of six", x.find(8), -1);
+    }
+
     private static void update() {
         SignQuorum x = houseWithSnapshot();
         CHECK.same("update(-1, 0)", x.update(-1, 0), -1);
@@ -588,6 +636,7 @@ public final class PromisesTest {
         CHECK.no("revoke(19) again", x.revoke(19));
         CHECK.yes("revoke(0)", x.revoke(0));
         CHECK.no("revoke(0) again", x.revoke(0));
+        CHECK.no("revoke(19) still", x.revoke(19));
 
         SignQuorum y = houseWithSnapshot();
         int time = signed(y, 1, 1, FAR);
@@ -670,6 +719,8 @@ public final class PromisesTest {
             new int[] {0, 0, 0x1}), -1);
         CHECK.same("a ring of roles", findIn(new int[][] {{1, 4, 0}, {1, 5, 0}, {1, 4, 0, 1, 6, 0}, none},
             new int[] {0, 0, 0, 0x1}), 6);
+        CHECK.same("a ring, and more behind it at its end", findIn(new int[][] {{1, 4, 0}, {1, 5, 0, 1, 7, 0},
+            {1, 6, 0}, {1, 4, 0, 1, 8, 0}, none, none}, new int[] {0, 0, 0, 0, 0x1, 0x1}), 8);
         CHECK.same("a role that names itself", findIn(new int[][] {{1, 4, 0, 1, 5, 0}, {1, 4, 0}, none},
             new int[] {0, 0, 0x1}), 5);
         CHECK.same("a role that names itself and ends", findIn(new int[][] {{1, 4, 0, 1, 5, 0}, {1, 4, 1}, none},
@@ -748,6 +799,24 @@ public final class PromisesTest {
             x.octet(0, octets);
             CHECK.same("hash(0) with octets", x.hash(0), 64 + octets);
         }
+        // Round the ends of a block of SHA-256: 55 and 56 bytes, 63 and 64.
+        for (int octets = 0; octets <= 16; octets++) {
+            hashWithOctets(octets);
+        }
+    }
+
+    private static void hashWithOctets(int octets) {
+        SignQuorum x = new SignQuorum();
+        x.row(8, 1, 0);
+        for (int i = 0; i < 6; i++) {
+            x.delegate(0, 0xabcdef, 4, false);
+        }
+        for (int i = 0; i < octets; i++) {
+            x.octet(0, 0xa5);
+        }
+        bytesAre("a row of " + (52 + octets) + " bytes", x, 0, "08" + "00000001" + "0000000000000000"
+            + HexFormat.of().toHexDigits((byte) octets) + "a5".repeat(octets)
+            + "06" + "00abcdef0400".repeat(6) + "00");
     }
 
     private static void digest() {
