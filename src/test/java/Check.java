@@ -4,6 +4,8 @@ final class Check {
 
     private int asked = 0;
     private int wrong = 0;
+    private int edges = 0;
+    private String prefix = "";
 
     void same(String what, long got, long due) {
         asked++;
@@ -20,8 +22,25 @@ final class Check {
         same(what, got ? 1 : 0, 0);
     }
 
+    /** One boundary case that the document names, by the promise (or term) and the words that name it. */
+    void edge(String where, String words, Runnable body) {
+        int askedBefore = asked;
+        edges++;
+        prefix = where + ", \"" + words + "\": ";
+        try {
+            body.run();
+        } catch (RuntimeException e) {
+            tell("a call threw " + e);
+        }
+        if (asked == askedBefore) {
+            tell("nothing was asked");
+        }
+        prefix = "";
+    }
+
     void end() {
-        System.out.println(asked + " answers asked, " + wrong + " not as due");
+        System.out.println((edges == 0 ? "" : edges + " boundary cases, ") + asked + " answers asked, " + wrong
+            + " not as due");
         if (wrong != 0 || asked == 0) {
             System.exit(1);
         }
@@ -30,7 +49,7 @@ final class Check {
     private void tell(String text) {
         wrong++;
         if (wrong <= MOST_PRINTED) {
-            System.out.println(text);
+            System.out.println(prefix + text);
         }
     }
 }

@@ -1,11 +1,10 @@
-import java.nio.ByteBuffer;
 import java.util.HexFormat;
 
 /** The promises of the document, one method each: ordinary inputs, the edges that it names, wrong inputs. */
 public final class PromisesTest {
-    private static final int[] NO_ROLES = {-1, 10, Integer.MIN_VALUE, Integer.MAX_VALUE};
-    private static final int[] NO_VERSIONS = {0, -1, 1000001, Integer.MIN_VALUE, Integer.MAX_VALUE};
-    private static final long FAR = 1000;
+    private static final int[] NO_ROLES = House.NO_ROLES;
+    private static final int[] NO_VERSIONS = House.NO_VERSIONS;
+    private static final long FAR = House.FAR;
 
     private static final Check CHECK = new Check();
 
@@ -39,48 +38,28 @@ public final class PromisesTest {
         CHECK.end();
     }
 
-    /** Key 0 alone is in each role's set, and row 0 is the client's root, version 1. */
     private static SignQuorum house() {
-        SignQuorum x = new SignQuorum();
-        x.key(11, FAR);
-        for (int role = 0; role <= 9; role++) {
-            x.holds(role, 0, true);
-        }
-        x.row(0, 1, FAR);
-        x.sign(0, 0);
-        CHECK.same("house: update(0, 0)", x.update(0, 0), 1);
-        return x;
-    }
-
-    private static int signed(SignQuorum x, int role, int version, long until) {
-        int row = x.row(role, version, until);
-        x.sign(row, 0);
-        return row;
-    }
-
-    /** The client takes a time row and, by it, a snapshot that tells version 1 of the roles 3 .. 9. */
-    private static void takeSnapshot(SignQuorum x) {
-        int time = x.row(1, 1, FAR);
-        x.tells(time, 2, 1);
-        x.sign(time, 0);
-        CHECK.same("house: update of the time row", x.update(time, 0), 1);
-        int snapshot = x.row(2, 1, FAR);
-        for (int role = 3; role <= 9; role++) {
-            x.tells(snapshot, role, 1);
-        }
-        x.sign(snapshot, 0);
-        CHECK.same("house: update of the snapshot", x.update(snapshot, 0), 1);
+        return House.withRoot(CHECK);
     }
 
     private static SignQuorum houseWithSnapshot() {
-        SignQuorum x = house();
-        takeSnapshot(x);
-        return x;
+        return House.withSnapshot(CHECK);
+    }
+
+    private static int signed(SignQuorum x, int role, int version, long until) {
+        return House.signed(x, role, version, until);
     }
 
     private static void take(SignQuorum x, int row) {
-        x.sign(row, 0);
-        CHECK.same("update(" + row + ", 0)", x.update(row, 0), 1);
+        House.take(CHECK, x, row);
+    }
+
+    private static void bytesAre(String what, SignQuorum x, int row, String hex) {
+        Bytes.are(CHECK, what, x, row, hex);
+    }
+
+    private static void digestIs(String what, SignQuorum x, String hex) {
+        Bytes.digestIs(CHECK, what, x, hex);
     }
 
     private static boolean digestThrows(SignQuorum x, int i) {
@@ -323,9 +302,9 @@ public final class PromisesTest {
         x.key(-2, 1);
         x.row(1, 1, 0);
         String bytes = "01" + "00000001" + "0000000000000000" + "00" + "00";
-        long first = firstEight("0123456789abcdef" + bytes);
+        long first = Bytes.signature(0x0123456789abcdefL, bytes);
         CHECK.same("sign(0, 0)", x.sign(0, 0), first);
-        CHECK.same("sign(0, 1)", x.sign(0, 1), firstEight("fffffffffffffffe" + bytes));
+        CHECK.same("sign(0, 1)", x.sign(0, 1), Bytes.signature(-2, bytes));
         CHECK.same("the digest that is told stays", x.digest(0), 0);
         CHECK.same("sign(0, 0) again", x.sign(0, 0), first);
         CHECK.same("three signatures", x.about(0, 2), 3);
@@ -356,7 +335,7 @@ public final class PromisesTest {
         String bytes = "03" + "00000001" + "0000000000000000" + "10" + "000102030405060708090a0b0c0d0e0f"
             + "06" + "00ffffff0901".repeat(6) + "06" + "00eeeeee".repeat(6);
         bytesAre("the longest row", x, 0, bytes);
-        CHECK.same("sign of the longest row", x.sign(0, 0), firstEight("0000000000000000" + bytes));
+        CHECK.same("sign of the longest row", x.sign(0, 0), Bytes.signature(0, bytes));
     }
 
     private static void forge() {
@@ -367,7 +346,7 @@ public final class PromisesTest {
         CHECK.same("a wrong one counts", x.about(time, 2), 1);
         CHECK.same("a wrong one isn't right", x.about(time, 3), 0);
         CHECK.same("a wrong one says nothing", x.verify(time, 0), -3);
-        long right = firstEight("000000000000000b" + "01" + "00000001" + "00000000000003e8" + "00" + "00");
+        long right = Bytes.signature(11, "01" + "00000001" + "00000000000003e8" + "00" + "00");
         CHECK.yes("forge of one bit more", x.forge(time, 0, right ^ 1));
         CHECK.yes("forge of the highest bit", x.forge(time, 0, right ^ Long.MIN_VALUE));
         CHECK.same("neither is right", x.about(time, 3), 0);
@@ -578,7 +557,7 @@ public final class PromisesTest {
         int time = x.row(1, 1, FAR);
         x.sign(time, 19);
         CHECK.same("the last key counts", x.verify(time, 0), 1);
-        takeSnapshot(x);
+        House.takeSnapshot(CHECK, x);
         int[] roles = {3, 4, 5, 6, 7, 8, 9};
         int[] ones = {1, 1, 1, 1, 1, 1, 1};
         int next = x.row(1, 1, FAR);
@@ -861,21 +840,5 @@ public final class PromisesTest {
         for (int row : new int[] {-1, 3, 24, Integer.MIN_VALUE, Integer.MAX_VALUE}) {
             CHECK.same("about(" + row + ", 0)", x.about(row, 0), -1);
         }
-    }
-
-    private static void bytesAre(String what, SignQuorum x, int row, String hex) {
-        CHECK.same(what + ": how many bytes", x.hash(row), hex.length() / 2);
-        digestIs(what, x, hex);
-    }
-
-    private static void digestIs(String what, SignQuorum x, String hex) {
-        byte[] due = Model.sha256(HexFormat.of().parseHex(hex));
-        for (int i = 0; i < 32; i++) {
-            CHECK.same(what + ": digest(" + i + ")", x.digest(i), due[i]);
-        }
-    }
-
-    private static long firstEight(String hex) {
-        return ByteBuffer.wrap(Model.sha256(HexFormat.of().parseHex(hex))).getLong();
     }
 }
