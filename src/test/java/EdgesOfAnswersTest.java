@@ -32,6 +32,7 @@ public final class EdgesOfAnswersTest {
         CHECK.edge("20", "how many different KEYS have a RIGHT one", EdgesOfAnswersTest::aboutDifferentKeys);
         CHECK.edge("20", "refused calls don't count", EdgesOfAnswersTest::aboutRefusedCalls);
         CHECK.edge("16 to 20", "asking changes nothing", EdgesOfAnswersTest::askingChangesNothing);
+        CHECK.edge("What it is", "at most 512 calls: the last of them", EdgesOfAnswersTest::lastOf512Calls);
         CHECK.end();
     }
 
@@ -210,8 +211,10 @@ public final class EdgesOfAnswersTest {
             x.digest(i);
         } catch (ArrayIndexOutOfBoundsException e) {
             thrown = true;
-            CHECK.same("digest(" + i + ") throws this class itself",
-                e.getClass() == ArrayIndexOutOfBoundsException.class ? 1 : 0, 1);
+            CHECK.yes("digest(" + i + ") throws this class itself",
+                e.getClass() == ArrayIndexOutOfBoundsException.class);
+            // The machine's own text: it must never be the machine that throws.
+            CHECK.no("digest(" + i + ") is thrown by the machine", String.valueOf(e.getMessage()).contains("out of"));
         }
         CHECK.yes("digest(" + i + ") throws", thrown);
     }
@@ -327,5 +330,19 @@ public final class EdgesOfAnswersTest {
             CHECK.same("find(1)", x.find(1), -1);
             CHECK.same("digest(0)", x.digest(0), 0);
         });
+    }
+
+    private static void lastOf512Calls() {
+        SignQuorum x = new SignQuorum();
+        x.key(1, FAR);
+        x.holds(0, 0, true);
+        x.row(0, 1, FAR);
+        x.sign(0, 0);
+        x.hash(0);
+        for (int i = 0; i < 474; i++) {
+            CHECK.same("verify(0, 0)", x.verify(0, 0), 1);
+        }
+        Bytes.digestIs(CHECK, "the digest", x, Bytes.head(0, 1, FAR) + "0100000001" + "0100000000".repeat(9));
+        CHECK.same("update, the 512th call", x.update(0, 0), 1);
     }
 }

@@ -279,6 +279,11 @@ public final class EdgesOfFindingTest {
             5);
         CHECK.same("by two ways", roles(new int[][] {{1, 4, 0, 1, 5, 0}, {1, 6, 0}, {1, 6, 0, 1, 7, 0}, NOTHING,
             NOTHING}, 0, 0, 0, 0, 1).find(1), 7);
+        // 4 waits for 5 and 5 for 6, which names 4: what stands behind 5 in 4 must come behind what is left in 6.
+        CHECK.same("not again from below", roles(new int[][] {{1, 4, 0}, {1, 5, 0, 1, 7, 0}, {1, 6, 0}, {1, 4, 0, 1, 8,
+            0}, NOTHING, NOTHING}, 0, 0, 0, 0, 1, 1).find(1), 8);
+        CHECK.same("not again from below, where it would end", roles(new int[][] {{1, 4, 0}, {1, 5, 0, 1, 7, 1}, {1, 6,
+            0}, {1, 4, 0, 1, 8, 0}, NOTHING, NOTHING}, 0, 0, 0, 0, 0, 1).find(1), 8);
     }
 
     private static void endsAll() {

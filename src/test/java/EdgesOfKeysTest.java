@@ -1,3 +1,5 @@
+import java.util.HexFormat;
+
 /** The boundary cases of a new object, keys, the draft and revoked keys: promises 1 to 4 and 14. */
 public final class EdgesOfKeysTest {
     private static final long FAR = House.FAR;
@@ -35,6 +37,7 @@ public final class EdgesOfKeysTest {
         CHECK.edge("4", "is in the set, twice", EdgesOfKeysTest::inTheSetTwice);
         CHECK.edge("4", "or isn't, where it never was", EdgesOfKeysTest::outOfTheSetThatIsEmpty);
         CHECK.edge("4", "all 20 KEYS in all sets", EdgesOfKeysTest::fullSets);
+        CHECK.edge("Terms", "bit k for KEY k", EdgesOfKeysTest::eachKeyHasItsBit);
         CHECK.edge("4", "a KEY leaves one ROLE's set alone", EdgesOfKeysTest::setsAreApart);
 
         CHECK.edge("14", "false if there is none such", EdgesOfKeysTest::revokeNoKey);
@@ -335,6 +338,20 @@ public final class EdgesOfKeysTest {
         x.row(0, 1, 0);
         Bytes.are(CHECK, "but the last of the last, and the first of the first", x, 1, Bytes.head(0, 1, 0)
             + "01000ffffe" + "01000fffff".repeat(8) + "010007ffff");
+    }
+
+    private static void eachKeyHasItsBit() {
+        SignQuorum x = new SignQuorum();
+        House.addKeys(x, 20);
+        for (int k = 0; k < 20; k++) {
+            x.holds(9, k, true);
+            x.row(0, 1, 0);
+            x.holds(9, k, false);
+            CHECK.same("hash(" + k + ")", x.hash(k), 64);
+            String due = Bytes.head(0, 1, 0) + "0100000000".repeat(9) + String.format("01%08x", 1 << k);
+            CHECK.same("digest(0)", x.digest(0), Model.sha256(HexFormat.of().parseHex(due))[0]);
+            CHECK.same("digest(31)", x.digest(31), Model.sha256(HexFormat.of().parseHex(due))[31]);
+        }
     }
 
     private static void setsAreApart() {

@@ -4,29 +4,23 @@ import java.util.Random;
 /** Long mixed runs of calls: every answer of SignQuorum is that of the slow model. The seeds are fixed. */
 public final class ModelTest {
     private static final int RUNS = 3000;
-    private static final int CALLS = 512;
     private static final int[] ODD = {-1, 0, 10, 16, 20, 24, 31, 32, 1000001, Integer.MIN_VALUE, Integer.MAX_VALUE};
     private static final int[] PATHS = {0x1, 0x2, 0x12, 0x13, 0x121, 0x12e, 0x123456, 0xe, 0x11, 0xf, 0x102, 0};
     private static final int[] PATTERNS = {0x1, 0xf, 0x12, 0x1f, 0xf2, 0xff, 0x12f, 0xffffff, 0x2, 0xf0, 0x1000000, 0};
     private static final int LATEST = 12;
 
-    private final Check check;
     private final Random random;
-    private final int run;
-    private final SignQuorum x = new SignQuorum();
-    private final Model model = new Model();
+    private final Pair pair;
     private int keys = 0;
     private int rows = 0;
     private long lastSignature = 0;
-    private int calls = 0;
 
     // How often each answer of verify and update (by its negative, 0 for 1) and each role by find came.
     private final int[] ruleCounts;
     private final int[] foundCounts;
 
     private ModelTest(Check check, int run, int[] ruleCounts, int[] foundCounts) {
-        this.check = check;
-        this.run = run;
+        this.pair = new Pair(check, "run " + run);
         this.random = new Random(run);
         this.ruleCounts = ruleCounts;
         this.foundCounts = foundCounts;
@@ -55,12 +49,11 @@ public final class ModelTest {
             begin();
         }
         // A step makes at most some forty calls, and the document promises nothing behind the 512th.
-        while (calls < CALLS - 45) {
+        while (pair.callsLeft() > 45) {
             step();
         }
-        while (calls < CALLS) {
-            int i = random.nextInt(32);
-            same("digest(" + i + ")", x.digest(i), model.digest(i));
+        while (pair.callsLeft() > 0) {
+            pair.digest(random.nextInt(32));
         }
     }
 
@@ -69,8 +62,8 @@ public final class ModelTest {
         addKey(random.nextLong(), LATEST + 5);
         addKey(random.nextLong(), LATEST);
         for (int role = 0; role <= 9; role++) {
-            holds(role, 0, true);
-            holds(role, 1, random.nextBoolean());
+            pair.holds(role, 0, true);
+            pair.holds(role, 1, random.nextBoolean());
         }
         addRow(0, 1 + random.nextInt(3), LATEST + 5);
         sign(0, 0);
@@ -82,12 +75,12 @@ public final class ModelTest {
 
     private void takeSnapshot() {
         addRow(1, 1, LATEST);
-        tells(1, 2, 1);
+        pair.tells(1, 2, 1);
         sign(1, 0);
         update(1, 0);
         addRow(2, 1, LATEST);
         for (int role = 3; role <= 9; role++) {
-            tells(2, role, 1);
+            pair.tells(2, role, 1);
         }
         sign(2, 0);
         update(2, 0);
@@ -105,9 +98,9 @@ public final class ModelTest {
         } else if (kind < 4) {
             int role = role();
             int n = random.nextInt(8) == 0 ? odd() : 1 + random.nextInt(2);
-            same("quorum(" + role + ", " + n + ")", x.quorum(role, n), model.quorum(role, n));
+            pair.quorum(role, n);
         } else if (kind < 8) {
-            holds(role(), key(), random.nextInt(4) != 0);
+            pair.holds(role(), key(), random.nextInt(4) != 0);
         } else if (kind < 14) {
             wholeRow();
         } else if (kind < 17) {
@@ -123,7 +116,7 @@ public final class ModelTest {
 
     private void wholeRow() {
         int role = random.nextInt(10);
-        filledRow(role, role == 0 ? model.version(0) + 1 : version());
+        filledRow(role, role == 0 ? pair.version(0) + 1 : version());
     }
 
     /** A row that is made, filled, signed and often taken at once. */
@@ -143,9 +136,9 @@ public final class ModelTest {
 
     private void fill(int row, int role) {
         if (role == 1 || role == 2) {
-            tells(row, role == 1 ? 2 : 3 + random.nextInt(7), version());
+            pair.tells(row, role == 1 ? 2 : 3 + random.nextInt(7), version());
         } else if (random.nextInt(3) == 0) {
-            lists(row);
+            pair.lists(row, path());
         } else {
             delegate(row);
         }
@@ -154,21 +147,19 @@ public final class ModelTest {
     private void change(int kind) {
         int row = row();
         if (kind < 24) {
-            int b = random.nextInt();
-            same("octet(" + row + ", " + b + ")", x.octet(row, b), model.octet(row, b));
+            pair.octet(row, random.nextInt());
         } else if (kind < 31) {
-            tells(row, role(), random.nextInt(10) == 0 ? odd() : version());
+            pair.tells(row, role(), random.nextInt(10) == 0 ? odd() : version());
         } else if (kind < 39) {
             delegate(row);
         } else if (kind < 44) {
-            lists(row);
+            pair.lists(row, path());
         } else if (kind < 56) {
             sign(row, key());
         } else {
             int key = key();
             long number = random.nextBoolean() ? lastSignature : random.nextInt(2);
-            same("forge(" + row + ", " + key + ", " + number + ")", x.forge(row, key, number),
-                model.forge(row, key, number));
+            pair.forge(row, key, number);
         }
     }
 
@@ -176,14 +167,9 @@ public final class ModelTest {
         if (kind < 72) {
             update(row(), random.nextInt(LATEST));
         } else if (kind < 84) {
-            int row = row();
-            long t = time();
-            int answer = x.verify(row, t);
-            count(answer);
-            same("verify(" + row + ", " + t + ")", answer, model.verify(row, t));
+            count(pair.verify(row(), time()));
         } else if (random.nextInt(4) == 0) {
-            int key = key();
-            same("revoke(" + key + ")", x.revoke(key), model.revoke(key));
+            pair.revoke(key());
         }
     }
 
@@ -191,64 +177,41 @@ public final class ModelTest {
         int role = role();
         int row = row();
         int what = random.nextInt(20) == 0 ? odd() : random.nextInt(7);
-        int path = path();
-        int found = x.find(path);
+        int found = pair.find(path());
         foundCounts[found >= 0 ? found : 10]++;
-        same("find(" + path + ")", found, model.find(path));
-        same("version(" + role + ")", x.version(role), model.version(role));
-        same("current(" + role + ")", x.current(role), model.current(role));
-        same("about(" + row + ", " + what + ")", x.about(row, what), model.about(row, what));
-        same("hash(" + row + ")", x.hash(row), model.hash(row));
+        pair.version(role);
+        pair.current(role);
+        pair.about(row, what);
+        pair.hash(row);
         int step = random.nextInt(6) == 0 ? 1 : 9;
         for (int i = random.nextInt(step); i < 32; i += step) {
-            same("digest(" + i + ")", x.digest(i), model.digest(i));
+            pair.digest(i);
         }
     }
 
     private void addKey(long secret, long until) {
-        same("key(" + secret + ", " + until + ")", x.key(secret, until), model.key(secret, until));
+        pair.key(secret, until);
         keys++;
     }
 
     private void addRow(int role, int version, long until) {
-        int number = x.row(role, version, until);
-        same("row(" + role + ", " + version + ", " + until + ")", number, model.row(role, version, until));
+        int number = pair.row(role, version, until);
         rows = number >= 0 ? number + 1 : rows;
-    }
-
-    private void holds(int role, int key, boolean on) {
-        same("holds(" + role + ", " + key + ", " + on + ")", x.holds(role, key, on), model.holds(role, key, on));
-    }
-
-    private void tells(int row, int role, int version) {
-        same("tells(" + row + ", " + role + ", " + version + ")", x.tells(row, role, version),
-            model.tells(row, role, version));
     }
 
     private void delegate(int row) {
         int pattern = random.nextInt(10) == 0 ? random.nextInt() >>> random.nextInt(32)
             : PATTERNS[random.nextInt(PATTERNS.length)];
         int to = random.nextInt(10) == 0 ? role() : 4 + random.nextInt(6);
-        boolean ends = random.nextInt(3) == 0;
-        same("delegate(" + row + ", " + pattern + ", " + to + ", " + ends + ")", x.delegate(row, pattern, to, ends),
-            model.delegate(row, pattern, to, ends));
-    }
-
-    private void lists(int row) {
-        int path = path();
-        same("lists(" + row + ", " + path + ")", x.lists(row, path), model.lists(row, path));
+        pair.delegate(row, pattern, to, random.nextInt(3) == 0);
     }
 
     private void sign(int row, int key) {
-        long number = x.sign(row, key);
-        same("sign(" + row + ", " + key + ")", number, model.sign(row, key));
-        lastSignature = number;
+        lastSignature = pair.sign(row, key);
     }
 
     private void update(int row, long t) {
-        int answer = x.update(row, t);
-        count(answer);
-        same("update(" + row + ", " + t + ")", answer, model.update(row, t));
+        count(pair.update(row, t));
     }
 
     private void count(int answer) {
@@ -282,14 +245,5 @@ public final class ModelTest {
 
     private int odd() {
         return ODD[random.nextInt(ODD.length)];
-    }
-
-    private void same(String call, long got, long due) {
-        calls++;
-        check.same("run " + run + ": " + call, got, due);
-    }
-
-    private void same(String call, boolean got, boolean due) {
-        same(call, got ? 1 : 0, due ? 1 : 0);
     }
 }
