@@ -31,7 +31,7 @@ public final class SignQuorum {
     private final Roster draft = new Roster();
     private final Row[] rows = new Row[MOST_ROWS];
     private int rowCount = 0;
-    private final Client client = new Client(ring);
+    private final Client client = new Client();
     private final Sha256 sha = new Sha256();
     private final int[] toldDigest = new int[DIGEST_WORDS];
 
@@ -123,13 +123,13 @@ public final class SignQuorum {
     }
 
     public int verify(int row, long t) {
-        int broken = client.firstBrokenRule(rowAt(row), t);
+        int broken = brokenRule(rowAt(row), t);
         return broken == 0 ? 1 : -broken;
     }
 
     public int update(int row, long t) {
         Row r = rowAt(row);
-        int broken = client.firstBrokenRule(r, t);
+        int broken = brokenRule(r, t);
         if (broken != 0) {
             return -broken;
         }
@@ -203,6 +203,10 @@ public final class SignQuorum {
     private Row openRow(int number) {
         Row r = rowAt(number);
         return r == null || r.isClosed() ? null : r;
+    }
+
+    private int brokenRule(Row r, long t) {
+        return client.firstBrokenRule(r, t, ring.unexpiredAt(t));
     }
 
     private long rightSignature(Row r, int key) {
@@ -533,14 +537,9 @@ public final class SignQuorum {
         // Told apart from NONE, since an ending delegation stops the searches above it too.
         private static final int OVER = -2;
 
-        private final KeyRing ring;
         private final Row[] currentRows = new Row[ROLE_COUNT];
         private int revokedKeys = 0;
         private int searchedRoles = 0;
-
-        Client(KeyRing ring) {
-            this.ring = ring;
-        }
 
         Row currentOf(int role) {
             return isRole(role) ? currentRows[role] : null;
@@ -561,19 +560,20 @@ public final class SignQuorum {
             return true;
         }
 
-        /** The number of the first rule that doesn't hold, or 0 if all hold. */
-        int firstBrokenRule(Row row, long t) {
+        /** The number of the first rule that doesn't hold at t, where bit k of unexpired is key k, or 0 if all hold. */
+        int firstBrokenRule(Row row, long t, int unexpired) {
             if (row == null) {
                 return 1;
             }
             Row root = currentOf(ROOT);
+            int live = unexpired & ~revokedKeys;
             if (row.role != ROOT && (root == null || !root.isAliveAt(t))) {
                 return 2;
             }
-            if (root != null && !hasQuorum(row, root, t)) {
+            if (root != null && !hasQuorum(row, root, live)) {
                 return 3;
             }
-            if (row.role == ROOT && !hasQuorum(row, row, t)) {
+            if (row.role == ROOT && !hasQuorum(row, row, live)) {
                 return 4;
             }
             if (!hasFollowingVersion(row)) {
@@ -588,8 +588,7 @@ public final class SignQuorum {
             return keepsWhatWasTold(row) ? 0 : 8;
         }
 
-        private boolean hasQuorum(Row row, Row root, long t) {
-            int live = ring.unexpiredAt(t) & ~revokedKeys;
+        private static boolean hasQuorum(Row row, Row root, int live) {
             return root.roster.isMetBy(row.rightKeys & live, row.role);
         }
 
